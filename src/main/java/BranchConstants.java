@@ -22,22 +22,16 @@ public final class BranchConstants {
     private static final int MOST_STEPS = 10_000;
     private static final int UNREACHED = 0;
 
-    private final Code program;
-    private final Code rewritten;
-    private final Analysis analysis;
-    private final Rewriting rewriting;
-    private final Execution programRun;
-    private final Execution rewrittenRun;
+    private final Code program = new Code();
+    private final Code rewritten = new Code();
+    private final Analysis analysis = new Analysis();
+    private final Rewriting rewriting = new Rewriting();
+    private final Execution programRun = new Execution();
+    private final Execution rewrittenRun = new Execution();
     private boolean isAnalysed;
     private boolean isRewritten;
 
     public BranchConstants() {
-        program = new Code();
-        rewritten = new Code();
-        analysis = new Analysis(program);
-        rewriting = new Rewriting(program, analysis, rewritten);
-        programRun = new Execution(program);
-        rewrittenRun = new Execution(rewritten);
     }
 
     public int add(int kind, int one, int two, int three) throws IllegalArgumentException, IllegalStateException {
@@ -74,7 +68,7 @@ public final class BranchConstants {
 
     public int reachedAll() {
         analyseOnce();
-        return analysis.countReached();
+        return analysis.countReached(program);
     }
 
     public int known(int i, int v) throws IndexOutOfBoundsException {
@@ -96,7 +90,7 @@ public final class BranchConstants {
             throw new IllegalStateException("the program is empty");
         }
         analyseOnce();
-        rewriting.perform();
+        rewriting.perform(program, analysis, rewritten);
         isRewritten = true;
         rewrittenRun.isStarted = false;
         return rewritten.count;
@@ -105,7 +99,7 @@ public final class BranchConstants {
     public int code(int side, int i, int what) throws IllegalStateException, IndexOutOfBoundsException {
         refuseMissingRewritten(side);
         refuseWrongSide(side);
-        Code asked = side == 0 ? program : rewritten;
+        Code asked = codeOf(side);
         if (i < 0 || i >= asked.count || what < 0 || what > 3) {
             throw new IndexOutOfBoundsException("no such instruction or number of it");
         }
@@ -115,7 +109,7 @@ public final class BranchConstants {
     public void start(int side, int a, int b, int c, int d) throws IndexOutOfBoundsException, IllegalStateException {
         refuseWrongSide(side);
         refuseMissingRewritten(side);
-        runOf(side).begin(a, b, c, d);
+        runOf(side).begin(codeOf(side), a, b, c, d);
     }
 
     public int run(int side, int n)
@@ -125,7 +119,7 @@ public final class BranchConstants {
             throw new IllegalArgumentException("no such number of steps");
         }
         refuseUnstarted(side);
-        return runOf(side).advance(n);
+        return runOf(side).advance(codeOf(side), n);
     }
 
     public int place(int side) throws IndexOutOfBoundsException, IllegalStateException {
@@ -157,9 +151,13 @@ public final class BranchConstants {
 
     private void analyseOnce() {
         if (!isAnalysed) {
-            analysis.perform();
+            analysis.perform(program);
             isAnalysed = true;
         }
+    }
+
+    private Code codeOf(int side) {
+        return side == 0 ? program : rewritten;
     }
 
     private Execution runOf(int side) {
@@ -291,7 +289,7 @@ public final class BranchConstants {
 
         /** The target of a ZERO or JUMP; every target that is the END is told as the same number. */
         private int target(int i) {
-            return Math.min(twos[i], count);
+            return twos[i] < count ? twos[i] : count;
         }
     }
 
@@ -300,7 +298,6 @@ public final class BranchConstants {
         /** An instruction waits at most once for being reached and once for each variable that comes to vary. */
         private static final int MOST_ROUNDS = MOST_INSTRUCTIONS * (VARIABLES + 1) + 1;
 
-        private final Code program;
         private final int[] states = new int[MOST_INSTRUCTIONS * VARIABLES];
         private final int[] constants = new int[MOST_INSTRUCTIONS * VARIABLES];
         private final boolean[] isWaiting = new boolean[MOST_INSTRUCTIONS];
@@ -308,64 +305,55 @@ public final class BranchConstants {
         private final int[] constantsBehind = new int[VARIABLES];
         private int result;
 
-        private Analysis(Code program) {
-            this.program = program;
-        }
-
-        private void perform() {
+        private void perform(Code code) {
             Arrays.fill(states, UNREACHED);
             Arrays.fill(constants, 0);
             Arrays.fill(statesBehind, VARIES);
             Arrays.fill(constantsBehind, 0);
-            comeTo(0);
+            comeTo(code, 0);
             boolean hasMoved = true;
             for (int round = 0; hasMoved && round < MOST_ROUNDS; round++) {
-                hasMoved = goOnFromWaiting();
-            }
-        }
-
-        private boolean goOnFromWaiting() {
-            boolean hasMoved = false;
-            for (int i = 0; i < program.count; i++) {
-                if (isWaiting[i]) {
-                    isWaiting[i] = false;
-                    hasMoved = true;
-                    goOnFrom(i);
+                hasMoved = false;
+                for (int i = 0; i < code.count; i++) {
+                    if (isWaiting[i]) {
+                        isWaiting[i] = false;
+                        hasMoved = true;
+                        goOnFrom(code, i);
+                    }
                 }
             }
-            return hasMoved;
         }
 
-        private void goOnFrom(int i) {
+        private void goOnFrom(Code code, int i) {
             System.arraycopy(states, cell(i, 0), statesBehind, 0, VARIABLES);
             System.arraycopy(constants, cell(i, 0), constantsBehind, 0, VARIABLES);
-            if (program.assigns(i)) {
-                if (hasConstantResult(i)) {
-                    setConstantBehind(program.ones[i], result);
+            if (code.assigns(i)) {
+                if (hasConstantResult(code, i)) {
+                    setConstantBehind(code.ones[i], result);
                 } else {
-                    setVaryingBehind(program.ones[i]);
+                    setVaryingBehind(code.ones[i]);
                 }
-                comeTo(i + 1);
-            } else if (program.kinds[i] == JUMP) {
-                comeTo(program.target(i));
-            } else if (program.kinds[i] == ZERO) {
-                goOnFromZero(i);
+                comeTo(code, i + 1);
+            } else if (code.kinds[i] == JUMP) {
+                comeTo(code, code.target(i));
+            } else if (code.kinds[i] == ZERO) {
+                goOnFromZero(code, i);
             }
         }
 
-        private void goOnFromZero(int i) {
-            if (hasConstantTest(i)) {
-                comeTo(wayOfConstantTest(i));
+        private void goOnFromZero(Code code, int i) {
+            if (hasConstantTest(code, i)) {
+                comeTo(code, wayOfConstantTest(code, i));
             } else {
-                comeTo(i + 1);
-                setConstantBehind(program.ones[i], 0);
-                comeTo(program.target(i));
+                comeTo(code, i + 1);
+                setConstantBehind(code.ones[i], 0);
+                comeTo(code, code.target(i));
             }
         }
 
         /** Joins what stands behind an instruction with what is held before the one where it goes on. */
-        private void comeTo(int i) {
-            if (i >= program.count) {
+        private void comeTo(Code code, int i) {
+            if (i >= code.count) {
                 return;
             }
             for (int v = 0; v < VARIABLES; v++) {
@@ -397,18 +385,18 @@ public final class BranchConstants {
         }
 
         /** Whether a reached SET, COPY, ADD, SUB or MUL makes its variable constant; then result is that constant. */
-        private boolean hasConstantResult(int i) {
-            int kind = program.kinds[i];
+        private boolean hasConstantResult(Code code, int i) {
+            int kind = code.kinds[i];
             if (kind == SET) {
-                result = program.twos[i];
+                result = code.twos[i];
                 return true;
             }
-            int w = cell(i, program.twos[i]);
+            int w = cell(i, code.twos[i]);
             if (kind == COPY) {
                 result = constants[w];
                 return states[w] == CONSTANT;
             }
-            int x = cell(i, program.threes[i]);
+            int x = cell(i, code.threes[i]);
             if (kind == MUL && (isConstantZero(w) || isConstantZero(x))) {
                 result = 0;
                 return true;
@@ -421,12 +409,12 @@ public final class BranchConstants {
             return states[at] == CONSTANT && constants[at] == 0;
         }
 
-        private boolean hasConstantTest(int i) {
-            return states[cell(i, program.ones[i])] == CONSTANT;
+        private boolean hasConstantTest(Code code, int i) {
+            return states[cell(i, code.ones[i])] == CONSTANT;
         }
 
-        private int wayOfConstantTest(int i) {
-            return constants[cell(i, program.ones[i])] == 0 ? program.target(i) : i + 1;
+        private int wayOfConstantTest(Code code, int i) {
+            return constants[cell(i, code.ones[i])] == 0 ? code.target(i) : i + 1;
         }
 
         /** Before a reached instruction every variable has a state, so the first one tells. */
@@ -434,9 +422,9 @@ public final class BranchConstants {
             return states[cell(i, 0)] != UNREACHED;
         }
 
-        private int countReached() {
+        private int countReached(Code code) {
             int count = 0;
-            for (int i = 0; i < program.count; i++) {
+            for (int i = 0; i < code.count; i++) {
                 if (isReached(i)) {
                     count++;
                 }
@@ -447,92 +435,83 @@ public final class BranchConstants {
 
     /** REWRITING: the four steps work in place on a copy of the program. */
     private static final class Rewriting {
-        private final Code program;
-        private final Analysis analysis;
-        private final Code rewritten;
         private final boolean[] stays = new boolean[MOST_INSTRUCTIONS];
         private final int[] queue = new int[MOST_INSTRUCTIONS];
         private final int[] newNumbers = new int[MOST_INSTRUCTIONS + 1];
         private int queued;
 
-        private Rewriting(Code program, Analysis analysis, Code rewritten) {
-            this.program = program;
-            this.analysis = analysis;
-            this.rewritten = rewritten;
+        private void perform(Code program, Analysis analysis, Code copy) {
+            copy.putAllOf(program);
+            fold(program, analysis, copy);
+            thread(copy);
+            keepWhatCanBeComeTo(copy);
+            dropJumpsToTheNext(copy);
+            numberAnew(copy);
         }
 
-        private void perform() {
-            rewritten.putAllOf(program);
-            fold();
-            thread();
-            keepWhatCanBeComeTo();
-            dropJumpsToTheNext();
-            numberAnew();
-        }
-
-        private void fold() {
-            for (int i = 0; i < rewritten.count; i++) {
+        private static void fold(Code program, Analysis analysis, Code copy) {
+            for (int i = 0; i < program.count; i++) {
                 if (!analysis.isReached(i)) {
                     continue;
                 }
-                if (program.assigns(i) && analysis.hasConstantResult(i)) {
-                    rewritten.put(i, SET, program.ones[i], analysis.result, 0);
-                } else if (program.kinds[i] == ZERO && analysis.hasConstantTest(i)) {
-                    rewritten.put(i, JUMP, 0, analysis.wayOfConstantTest(i), 0);
+                if (program.assigns(i) && analysis.hasConstantResult(program, i)) {
+                    copy.put(i, SET, program.ones[i], analysis.result, 0);
+                } else if (program.kinds[i] == ZERO && analysis.hasConstantTest(program, i)) {
+                    copy.put(i, JUMP, 0, analysis.wayOfConstantTest(program, i), 0);
                 }
             }
         }
 
         /** In any order: a target put further on along its chain leaves every chain's end as it was. */
-        private void thread() {
-            for (int i = 0; i < rewritten.count; i++) {
-                if (rewritten.hasTarget(i)) {
-                    rewritten.twos[i] = endOfChain(rewritten.target(i));
+        private static void thread(Code code) {
+            for (int i = 0; i < code.count; i++) {
+                if (code.hasTarget(i)) {
+                    code.twos[i] = endOfChain(code, code.target(i));
                 }
             }
         }
 
-        private int endOfChain(int first) {
+        private static int endOfChain(Code code, int first) {
             int t = first;
-            for (int hops = 0; hops <= rewritten.count; hops++) {
-                if (t >= rewritten.count || rewritten.kinds[t] != JUMP) {
+            for (int hops = 0; hops <= code.count; hops++) {
+                if (t >= code.count || code.kinds[t] != JUMP) {
                     return t;
                 }
-                t = rewritten.target(t);
+                t = code.target(t);
             }
             // More hops than there are instructions: the chain goes round for ever.
             return first;
         }
 
-        private void keepWhatCanBeComeTo() {
-            for (int i = 0; i < rewritten.count; i++) {
+        private void keepWhatCanBeComeTo(Code code) {
+            for (int i = 0; i < code.count; i++) {
                 stays[i] = false;
             }
             queued = 0;
-            keep(0);
-            for (int done = 0; done < queued && done < rewritten.count; done++) {
+            keep(code, 0);
+            for (int done = 0; done < queued && done < code.count; done++) {
                 int i = queue[done];
-                if (rewritten.hasTarget(i)) {
-                    keep(rewritten.target(i));
+                if (code.hasTarget(i)) {
+                    keep(code, code.target(i));
                 }
-                if (rewritten.kinds[i] != JUMP && rewritten.kinds[i] != HALT) {
-                    keep(i + 1);
+                if (code.kinds[i] != JUMP && code.kinds[i] != HALT) {
+                    keep(code, i + 1);
                 }
             }
         }
 
-        private void keep(int i) {
-            if (i < rewritten.count && !stays[i]) {
+        private void keep(Code code, int i) {
+            if (i < code.count && !stays[i]) {
                 stays[i] = true;
                 queue[queued] = i;
                 queued++;
             }
         }
 
-        private void dropJumpsToTheNext() {
-            int next = rewritten.count;
-            for (int i = rewritten.count - 1; i >= 0; i--) {
-                if (stays[i] && rewritten.kinds[i] == JUMP && rewritten.target(i) == next) {
+        private void dropJumpsToTheNext(Code code) {
+            int next = code.count;
+            for (int i = code.count - 1; i >= 0; i--) {
+                if (stays[i] && code.kinds[i] == JUMP && code.target(i) == next) {
                     stays[i] = false;
                 } else if (stays[i]) {
                     next = i;
@@ -540,43 +519,38 @@ public final class BranchConstants {
             }
         }
 
-        private void numberAnew() {
+        private void numberAnew(Code code) {
             int left = 0;
-            for (int i = 0; i < rewritten.count; i++) {
+            for (int i = 0; i < code.count; i++) {
                 newNumbers[i] = left;
                 if (stays[i]) {
                     left++;
                 }
             }
-            newNumbers[rewritten.count] = left;
-            for (int i = 0; i < rewritten.count; i++) {
+            newNumbers[code.count] = left;
+            for (int i = 0; i < code.count; i++) {
                 if (stays[i]) {
-                    moveToNewNumber(i);
+                    moveToNewNumber(code, i);
                 }
             }
-            rewritten.count = left;
+            code.count = left;
         }
 
         /** In place: a new number is never above the old one, so nothing is overwritten before it has moved. */
-        private void moveToNewNumber(int i) {
-            int two = rewritten.hasTarget(i) ? newNumbers[rewritten.target(i)] : rewritten.twos[i];
-            rewritten.put(newNumbers[i], rewritten.kinds[i], rewritten.ones[i], two, rewritten.threes[i]);
+        private void moveToNewNumber(Code code, int i) {
+            int two = code.hasTarget(i) ? newNumbers[code.target(i)] : code.twos[i];
+            code.put(newNumbers[i], code.kinds[i], code.ones[i], two, code.threes[i]);
         }
     }
 
-    /** A run of a program. */
+    /** A run: its variables, its place and how many steps it has done. */
     private static final class Execution {
-        private final Code program;
         private final int[] values = new int[VARIABLES];
         private int place;
         private int steps;
         private boolean isStarted;
 
-        private Execution(Code program) {
-            this.program = program;
-        }
-
-        private void begin(int a, int b, int c, int d) {
+        private void begin(Code code, int a, int b, int c, int d) {
             Arrays.fill(values, 0);
             values[0] = a;
             values[1] = b;
@@ -584,51 +558,50 @@ public final class BranchConstants {
             values[3] = d;
             steps = 0;
             isStarted = true;
-            goTo(0);
+            goTo(code, 0);
         }
 
-        private int advance(int most) {
+        private int advance(Code code, int most) {
             int done = 0;
             while (done < most && place != NONE) {
-                step();
+                step(code, place);
                 done++;
             }
             steps += done;
             return done;
         }
 
-        private void step() {
-            int i = place;
-            switch (program.kinds[i]) {
+        private void step(Code code, int i) {
+            switch (code.kinds[i]) {
                 case HALT:
-                    goTo(program.count);
+                    goTo(code, code.count);
                     break;
                 case JUMP:
-                    goTo(program.target(i));
+                    goTo(code, code.target(i));
                     break;
                 case ZERO:
-                    goTo(values[program.ones[i]] == 0 ? program.target(i) : i + 1);
+                    goTo(code, values[code.ones[i]] == 0 ? code.target(i) : i + 1);
                     break;
                 default:
-                    values[program.ones[i]] = assigned(i);
-                    goTo(i + 1);
+                    values[code.ones[i]] = assigned(code, i);
+                    goTo(code, i + 1);
                     break;
             }
         }
 
-        private int assigned(int i) {
-            int kind = program.kinds[i];
+        private int assigned(Code code, int i) {
+            int kind = code.kinds[i];
             if (kind == SET) {
-                return program.twos[i];
+                return code.twos[i];
             }
             if (kind == COPY) {
-                return values[program.twos[i]];
+                return values[code.twos[i]];
             }
-            return calculate(kind, values[program.twos[i]], values[program.threes[i]]);
+            return calculate(kind, values[code.twos[i]], values[code.threes[i]]);
         }
 
-        private void goTo(int i) {
-            place = i < program.count ? i : NONE;
+        private void goTo(Code code, int i) {
+            place = i < code.count ? i : NONE;
         }
     }
 }
