@@ -29,6 +29,7 @@ final class AnalysisTest {
         loops();
         theLeastAnswer();
         aLongChain();
+        aLongWayRound();
         backToTheBeginning();
         wrongNumbers();
         CHECK.end();
@@ -229,6 +230,29 @@ final class AnalysisTest {
             y.add(JUMP, 0, i - 1, 0);
         }
         CHECK.due("backwards: reachedAll()", 40, y.reachedAll());
+    }
+
+    /** A loop that goes backwards through most of the program, and has to be gone round for each variable. */
+    private static void aLongWayRound() {
+        BranchConstants x = new BranchConstants();
+        for (int v = 0; v < 6; v++) {
+            x.add(SET, v, 1, 0);
+        }
+        for (int v = 0; v < 5; v++) {
+            x.add(COPY, v, v + 1, 0);
+        }
+        x.add(ADD, 5, 5, 5);
+        x.add(JUMP, 0, 39, 0);
+        x.add(JUMP, 0, 6, 0);
+        for (int i = 14; i < 40; i++) {
+            x.add(JUMP, 0, i - 1, 0);
+        }
+        CHECK.due("long way: reachedAll()", 40, x.reachedAll());
+        for (int i = 6; i < 40; i += 33) {
+            varies("long way", x, i, 0);
+            varies("long way", x, i, 5);
+        }
+        constantIs("before the long way", x, 5, 0, 1);
     }
 
     private static void backToTheBeginning() {
