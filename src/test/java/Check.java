@@ -1,26 +1,35 @@
 /** Counts the answers that are not the ones that are due, and prints each of them. */
 final class Check {
-    /** The program is given as rows of kind, one, two, three; numbers left out at a row's end are 0. */
-    static BranchConstants program(int[]... rows) {
-        BranchConstants x = new BranchConstants();
-        for (int[] row : rows) {
-            x.add(row[0], number(row, 1), number(row, 2), number(row, 3));
-        }
-        return x;
-    }
-
-    private static int number(int[] row, int what) {
-        return what < row.length ? row[what] : 0;
-    }
-
+    private String sentence = "";
+    private int tests;
     private int asked;
     private int wrong;
+
+    /** One test, named after the sentence of the document that it is about. */
+    void about(String name, Runnable test) {
+        int askedBefore = asked;
+        sentence = name + ": ";
+        tests++;
+        try {
+            test.run();
+        } catch (RuntimeException e) {
+            fail("was broken off by " + e);
+        }
+        if (asked == askedBefore) {
+            fail("asked nothing");
+        }
+        sentence = "";
+    }
+
+    private void fail(String what) {
+        wrong++;
+        System.out.println(sentence + what);
+    }
 
     void due(String call, long want, long got) {
         asked++;
         if (want != got) {
-            wrong++;
-            System.out.println(call + " answered " + got + ", due is " + want);
+            fail(call + " answered " + got + ", due is " + want);
         }
     }
 
@@ -31,42 +40,45 @@ final class Check {
     void dueText(String call, String want, String got) {
         asked++;
         if (!want.equals(got)) {
-            wrong++;
-            System.out.println(call + " answered " + got + ", due is " + want);
+            fail(call + " answered " + got + ", due is " + want);
         }
     }
 
     void argument(String call, Runnable code) {
-        thrown(call, IllegalArgumentException.class, code);
+        thrown(call, "IllegalArgumentException", code);
     }
 
     void state(String call, Runnable code) {
-        thrown(call, IllegalStateException.class, code);
+        thrown(call, "IllegalStateException", code);
     }
 
     void index(String call, Runnable code) {
-        thrown(call, IndexOutOfBoundsException.class, code);
+        thrown(call, "IndexOutOfBoundsException", code);
     }
 
-    private void thrown(String call, Class<?> want, Runnable code) {
+    /** Whatever it answers: the call is not refused. */
+    void allowed(String call, Runnable code) {
+        thrown(call, "nothing", code);
+    }
+
+    private void thrown(String call, String want, Runnable code) {
         String got = "nothing";
         try {
             code.run();
         } catch (RuntimeException e) {
             got = e.getClass().getSimpleName();
         }
-        dueText(call + " throws", want.getSimpleName(), got);
+        dueText(call + " throws", want, got);
     }
 
     /** The whole program of a side, with every number of every instruction, and that there is none behind it. */
     void code(String name, BranchConstants x, int side, int[]... rows) {
         for (int i = 0; i < rows.length; i++) {
             for (int what = 0; what < 4; what++) {
-                due(name + ": code(" + side + ", " + i + ", " + what + ")",
-                        number(rows[i], what), x.code(side, i, what));
+                due(name + ": code(" + side + ", " + i + ", " + what + ")", rows[i][what], x.code(side, i, what));
             }
         }
-        index(name + ": code behind the last", () -> x.code(side, rows.length, 0));
+        index(name + ": code(" + side + ", " + rows.length + ", 0)", () -> x.code(side, rows.length, 0));
     }
 
     /** Rewrites the program, and looks at how many instructions that tells and at all of them. */
@@ -75,8 +87,19 @@ final class Check {
         code(name, x, 1, rows);
     }
 
+    void values(String name, BranchConstants x, int side, int... want) {
+        for (int v = 0; v < 6; v++) {
+            due(name + ": value(" + side + ", " + v + ")", want[v], x.value(side, v));
+        }
+    }
+
+    void stands(String name, BranchConstants x, int side, int place, int steps) {
+        due(name + ": place(" + side + ")", place, x.place(side));
+        due(name + ": steps(" + side + ")", steps, x.steps(side));
+    }
+
     void end() {
-        System.out.println(asked + " answers, " + wrong + " not as due");
+        System.out.println(tests + " tests, " + asked + " answers, " + wrong + " not as due");
         if (wrong != 0 || asked == 0) {
             System.exit(1);
         }
