@@ -9,6 +9,7 @@ final class AnalysisTest extends Rows {
         CHECK.about("ANALYSIS: for MUL if one of them is the constant 0 (then 0)", AnalysisTest::mulByZero);
         CHECK.about("ANALYSIS: otherwise it varies", AnalysisTest::otherwiseItVaries);
         CHECK.about("ANALYSIS: others stay", AnalysisTest::othersStay);
+        CHECK.about("ANALYSIS: others stay, on each way for itself", AnalysisTest::othersStayOnEachWay);
         CHECK.about("ANALYSIS: JUMP goes on at t alone", AnalysisTest::behindJump);
         CHECK.about("ANALYSIS: HALT nowhere", AnalysisTest::behindHalt);
         CHECK.about("ANALYSIS: ZERO, if v is constant, along the one way that it takes", AnalysisTest::zeroOfAConstant);
@@ -29,6 +30,7 @@ final class AnalysisTest extends Rows {
         CHECK.about("ANALYSIS: the longest ways round", AnalysisTest::longWays);
         CHECK.about("Promise 5: whether an instruction is reached", AnalysisTest::reached);
         CHECK.about("Promise 5: of the program as it is", AnalysisTest::asItIs);
+        CHECK.about("Promise 5: of the program as it is: what is reached no longer", AnalysisTest::reachedNoLonger);
         CHECK.about("Promise 6: how many instructions are reached", AnalysisTest::reachedAll);
         CHECK.about("Promise 7: before an instruction", AnalysisTest::beforeAnInstruction);
         CHECK.about("Promise 7: VARIES, CONSTANT, or 0 if not reached", AnalysisTest::known);
@@ -123,6 +125,9 @@ final class AnalysisTest extends Rows {
         constantIs(x, 6, 5, 0);
         BranchConstants byTheWay = program(zero(2, 2), halt(), mul(3, 2, 1), halt());
         constantIs(byTheWay, 3, 3, 0);
+        BranchConstants behindAnother = program(set(0, 0), set(4, 7), mul(1, 0, 5), set(4, 8), mul(2, 5, 0), halt());
+        constantIs(behindAnother, 3, 1, 0);
+        constantIs(behindAnother, 5, 2, 0);
     }
 
     private static void otherwiseItVaries() {
@@ -145,6 +150,21 @@ final class AnalysisTest extends Rows {
                 constantIs(x, 7, v, 10 + v);
             }
             varies(x, 7, 4);
+        }
+    }
+
+    /** The way between the two where it is another is gone before the one where it stays. */
+    private static void othersStayOnEachWay() {
+        for (int v = 0; v < 6; v++) {
+            int other = (v + 1) % 6;
+            BranchConstants constant = program(set(v, 1), zero(other, 4), set(v, 2), halt(), set(other, 3), halt());
+            constantIs(constant, 3, v, 2);
+            constantIs(constant, 4, v, 1);
+            constantIs(constant, 5, v, 1);
+            BranchConstants varying = program(zero(other, 3), set(v, 2), halt(), set(other, 3), halt());
+            constantIs(varying, 2, v, 2);
+            varies(varying, 3, v);
+            varies(varying, 4, v);
         }
     }
 
@@ -364,6 +384,23 @@ final class AnalysisTest extends Rows {
         x.add(HALT, 0, 0, 0);
         CHECK.due("filled again: reached(1)", false, x.reached(1));
         CHECK.due("filled again: known(1, 0)", 0, x.known(1, 0));
+    }
+
+    private static void reachedNoLonger() {
+        BranchConstants x = program(set(0, 1), set(0, 5), set(1, 6), halt());
+        reachedAre(x, 4, 0, 1, 2, 3);
+        x.change(0, HALT, 0, 0, 0);
+        reachedAre(x, 4, 0);
+        for (int i = 1; i < 4; i++) {
+            for (int v = 0; v < 6; v++) {
+                CHECK.due("known(" + i + ", " + v + ")", 0, x.known(i, v));
+                CHECK.due("constant(" + i + ", " + v + ")", 0, x.constant(i, v));
+            }
+        }
+        x.change(0, JUMP, 0, 3, 0);
+        reachedAre(x, 4, 0, 3);
+        varies(x, 3, 0);
+        varies(x, 3, 1);
     }
 
     private static void reachedAll() {
