@@ -1,9 +1,9 @@
 import java.util.Arrays;
 
 /**
- * THE ANALYSIS of all programs of three of these instructions: the class's answer meets the demands, and of all the
- * answers that meet them, tried one by one, none has fewer instructions reached or fewer values that vary, and no
- * other one has as few of both.
+ * THE ANALYSIS of all programs of three of the instructions below: the class's answer meets the demands, and of the
+ * answers tried one by one that meet them none has fewer instructions reached or fewer values that vary, and no other
+ * one has as few of both.
  */
 final class LeastTest extends Rows {
     private static final int SIZE = 3;
